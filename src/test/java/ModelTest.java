@@ -268,7 +268,7 @@ public final class ModelTest {
     }
 
     public static void main(String[] args) {
-        int count = args.length > 0 ? Integer.parseInt(args[0]) : 60;
+        int count = args.length > 0 ? Integer.parseInt(args[0]) : 150;
         long from = args.length > 1 ? Long.parseLong(args[1]) : 1;
         int most = args.length > 2 ? Integer.parseInt(args[2]) : 0;
         for (long seed = from; seed < from + count; seed++) {
