@@ -425,6 +425,8 @@ public final class PromisesTest {
         is("two rounds of one loop", taken("2 b 0a1:0 1a0:1", "", "a"), true);
         is("marks on the way count not", taken("2 b 0a1:1 1a1:0", "", "a"), false);
         is("four states round", taken("4 m256 0a1:0 1a2:0 2a3:0 3a0:8", "aaa", "aaa"), true);
+        is("four states round by one letter", taken("4 m256 0a1:0 1a2:0 2a3:0 3a0:8", "", "a"), true);
+        is("four states round, all marks", taken("4 m32768 0a1:1 1a2:2 2a3:4 3a0:8", "", "a"), true);
         is("long rows", taken(OFTEN_A, "bbbbbbbbbb", "bbbbbbbbba"), true);
         is("more than 300 deeds", taken(DEEDS_301, "", "a"), taken(DEEDS_301, "aa", "aaaa"));
         refuses("no loop", y -> { some(y); word(y, "ab", ""); }, y -> y.takes(0), UOE);
