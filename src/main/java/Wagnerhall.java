@@ -565,13 +565,21 @@ public final class Wagnerhall {
         return languageCount - 1;
     }
 
+    private static int classAt(int[] classes, int row) {
+        return row >= 0 && row < classes.length ? classes[row] : -1;
+    }
+
+    /** Whether the lasso that is looked at is in the language, of which the classes of rows are told. */
+    private boolean isCurrentIn(Language one, int[] classes) {
+        return one.judge(classAt(classes, lassos.front), classAt(classes, lassos.round));
+    }
+
     private boolean findApart(Language one, Language two) {
         one.spell(spelled, LASSO_LETTERS);
         two.spell(spelledOther, LASSO_LETTERS);
         lassos.begin();
         for (int i = 0; i < LASSOS && lassos.advance(LASSO_LETTERS); i++) {
-            boolean isIn = one.judge(spelled[lassos.front], spelled[lassos.round]);
-            if (isIn != two.judge(spelledOther[lassos.front], spelledOther[lassos.round])) {
+            if (isCurrentIn(one, spelled) != isCurrentIn(two, spelledOther)) {
                 return true;
             }
         }
@@ -583,7 +591,7 @@ public final class Wagnerhall {
         lassos.begin();
         int in = 0;
         for (int i = 0; i < LASSOS && lassos.advance(letters); i++) {
-            if (one.judge(spelled[lassos.front], spelled[lassos.round])) {
+            if (isCurrentIn(one, spelled)) {
                 in++;
             }
         }
@@ -595,8 +603,7 @@ public final class Wagnerhall {
         lassos.begin();
         int agreed = 0;
         for (int i = 0; i < LASSOS && lassos.advance(letters); i++) {
-            boolean isIn = one.judge(spelled[lassos.front], spelled[lassos.round]);
-            if (isIn == formula.isTrueOf(lassos.front, lassos.round)) {
+            if (isCurrentIn(one, spelled) == formula.isTrueOf(lassos.front, lassos.round)) {
                 agreed++;
             }
         }
@@ -607,8 +614,8 @@ public final class Wagnerhall {
         one.spell(spelled, SOUND_LETTERS);
         lassos.begin();
         for (int i = 0; i < LASSOS && lassos.advance(SOUND_LETTERS); i++) {
-            int x = spelled[lassos.front];
-            int t = spelled[lassos.round];
+            int x = classAt(spelled, lassos.front);
+            int t = classAt(spelled, lassos.round);
             boolean isIn = one.judge(x, t);
             boolean isSafe = one.judgeTurned('c', 0, x, t);
             boolean isCommon = isSafe && one.judgeTurned('l', 0, x, t);
@@ -1238,8 +1245,8 @@ public final class Wagnerhall {
             for (int i = 0; i <= CLASSES && isGrowing; i++) {
                 isGrowing = false;
                 for (int x = count - 1; x >= -1; x--) {
-                    boolean isComing = comes[behind(x, 0) + 1] || comes[behind(x, 1) + 1];
-                    if (isComing && !comes[x + 1]) {
+                    boolean isComing = isSet(comes, behind(x, 0)) || isSet(comes, behind(x, 1));
+                    if (isComing && !isSet(comes, x)) {
                         comes[x + 1] = true;
                         isGrowing = true;
                     }
@@ -1264,14 +1271,18 @@ public final class Wagnerhall {
             return x >= 0 && x < powers.length ? powers[x] : 0;
         }
 
+        private static boolean isSet(boolean[] marks, int x) {
+            return x >= -1 && x + 1 < marks.length && marks[x + 1];
+        }
+
         /** Whether some word of the language begins with this one. */
         boolean canMeet(int x) {
-            return x >= -1 && x + 1 < meets.length && meets[x + 1];
+            return isSet(meets, x);
         }
 
         /** Whether some word outside of the language begins with this one. */
         boolean canMiss(int x) {
-            return x >= -1 && x + 1 < misses.length && misses[x + 1];
+            return isSet(misses, x);
         }
 
         /** The verdict of the turned or shifted language. */
@@ -1598,6 +1609,10 @@ public final class Wagnerhall {
             return most;
         }
 
+        private int lengthFrom(int loop) {
+            return loop >= 0 && loop < lengths.length ? lengths[loop] : 1;
+        }
+
         /** Looks for a longer chain that begins with the loop, and tells whether there is one. */
         private boolean isExtended(int place, int loop) {
             boolean isIn = one.judge(place, loop);
@@ -1605,7 +1620,7 @@ public final class Wagnerhall {
             for (int i = 0; i < stays; i++) {
                 int extended = one.powerOf(productOf(loop, stay[i]));
                 if (one.judge(place, extended) != isIn) {
-                    most = Math.max(most, lengths[extended] + 1);
+                    most = Math.max(most, lengthFrom(extended) + 1);
                 }
             }
             boolean isLonger = most > lengths[loop];
