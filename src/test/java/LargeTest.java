@@ -175,13 +175,13 @@ public final class LargeTest {
 
     public static void main(String[] args) {
         takes();
-        pair(PromisesTest.CLASSES_100, PromisesTest.OFTEN_A);
-        pair(PromisesTest.CLASSES_101, PromisesTest.DEEDS_301);
-        pair(PromisesTest.JOIN_100_ONE, PromisesTest.JOIN_100_TWO);
-        pair(PromisesTest.JOIN_101_ONE, PromisesTest.JOIN_101_TWO);
-        pair(PromisesTest.PAIRS_600_ONE, PromisesTest.PAIRS_600_TWO);
-        pair(PromisesTest.PAIRS_601_ONE, PromisesTest.PAIRS_601_TWO);
-        pair(PromisesTest.DEEDS_300, PromisesTest.OFTEN_A);
+        pair(HelperHouse.CLASSES_100, HelperHouse.OFTEN_A);
+        pair(HelperHouse.CLASSES_101, HelperHouse.DEEDS_301);
+        pair(HelperHouse.JOIN_100_ONE, HelperHouse.JOIN_100_TWO);
+        pair(HelperHouse.JOIN_101_ONE, HelperHouse.JOIN_101_TWO);
+        pair(HelperHouse.PAIRS_600_ONE, HelperHouse.PAIRS_600_TWO);
+        pair(HelperHouse.PAIRS_601_ONE, HelperHouse.PAIRS_601_TWO);
+        pair(HelperHouse.DEEDS_300, HelperHouse.OFTEN_A);
         // Just one a and then b for ever, or just one b and then a for ever.
         pair("3 b 0a1:0 0b0:0 1b1:1", "3 b 0b1:0 0a0:0 1a1:1");
         pair("3 b 0a1:0 1b1:1 1a2:0 2b2:1", "4 b 0b1:0 1a1:1 1b2:0 2b3:0 3a3:1");

@@ -1,200 +1,14 @@
-import java.util.NoSuchElementException;
-
-/**
- * Each promise of the document: ordinary calls, the edges, wrong inputs, which of several exceptions
- * comes, and that a call that throws changes nothing. A new house is made for each group of calls.
- */
-public final class PromisesTest {
-    interface Build {
-        void on(Wagnerhall x);
-    }
-
-    interface Ask {
-        Object of(Wagnerhall x);
-    }
-
-    static final Class<?> IAE = IllegalArgumentException.class;
-    static final Class<?> ISE = IllegalStateException.class;
-    static final Class<?> IOOBE = IndexOutOfBoundsException.class;
-    static final Class<?> UOE = UnsupportedOperationException.class;
-    static final Class<?> NSE = NoSuchElementException.class;
-    static final Class<?> AE = ArithmeticException.class;
-
-    static int promise = 0;
-    static int asked = 0;
-    static int wrong = 0;
+/** Each promise of the document on ordinary calls; what it says of boundaries and exceptions is asked by BoundariesTest. */
+public final class PromisesTest extends HelperHouse {
     static final int[] perPromise = new int[46];
+    static int open = 0;
+    static int askedAtOpen = 0;
 
-    static void fail(String text) {
-        wrong++;
-        System.out.println("promise " + promise + ": " + text);
-    }
-
-    static void is(String what, Object got, Object due) {
-        asked++;
-        perPromise[promise]++;
-        if (!due.equals(got)) fail(what + " answered " + got + ", due is " + due);
-    }
-
-    static Object answer(Ask ask, Wagnerhall x) {
-        try {
-            return ask.of(x);
-        } catch (RuntimeException e) {
-            return e.getClass();
-        }
-    }
-
-    static Wagnerhall house(Build build) {
-        Wagnerhall x = new Wagnerhall();
-        build.on(x);
-        return x;
-    }
-
-    /** The call throws just this, and a house that saw it is like one that did not. */
-    static void refuses(String what, Build build, Ask call, Class<?> due) {
-        Wagnerhall one = house(build);
-        is(what, answer(call, one), due);
-        is(what + " changes nothing", probe(one), probe(house(build)));
-    }
-
-    /** Asks for all that can be seen of a house; the house is used up by this. */
-    static String probe(Wagnerhall x) {
-        StringBuilder s = new StringBuilder();
-        s.append(x.languages()).append(' ').append(x.checksum()).append(' ').append(x.won());
-        for (int i = 0; i < 10; i++) {
-            int k = i;
-            s.append(answer(y -> y.letterAt(k, false), x)).append(answer(y -> y.letterAt(k, true), x));
-            s.append(answer(y -> y.wins(k), x)).append(answer(y -> y.move(k), x));
-        }
-        s.append(answer(y -> y.holds(), x));
-        for (int i = 0; i < 12; i++) {
-            int k = i;
-            s.append(answer(y -> y.has(k), x)).append(answer(y -> y.verdict(k), x));
-        }
-        for (int i = 0; i < 6; i++) {
-            int k = i;
-            s.append(answer(y -> y.isDeterministic(k, true), x)).append(answer(y -> y.isDeterministic(k, false), x));
-            s.append(answer(y -> y.takes(k), x)).append(answer(y -> y.deeds(k), x));
-        }
-        s.append(x.wipe()).append(x.erase());
-        for (int i = 0; i < 6; i++) {
-            int k = i;
-            for (int p = 0; p < 4; p++) {
-                for (int q = 0; q < 4; q++) {
-                    int a = p;
-                    int b = q;
-                    s.append(answer(y -> y.cut(k, a, 'a', b), x)).append(answer(y -> y.cut(k, a, 'b', b), x));
-                }
-            }
-            for (int set = 0; set < 16; set += 1) {
-                int marks = set;
-                answer(y -> y.edge(k, 0, 'a', 0, marks), x);
-                answer(y -> y.type('a', true), x);
-                s.append(answer(y -> y.takes(k), x));
-            }
-            s.append(answer(y -> y.accept(k, 'm', 0), x));
-        }
-        s.append(answer(y -> y.machine(1), x)).append(answer(y -> y.position(0, 0), x)).append(answer(y -> y.drop(), x));
-        for (int i = 0; i < 10; i++) {
-            for (int k = 0; k < 10; k++) {
-                int p = i;
-                int q = k;
-                s.append(answer(y -> y.way(p, q), x));
-            }
-        }
-        return s.toString();
-    }
-
-    static void word(Wagnerhall x, String way, String loop) {
-        x.wipe();
-        for (char c : way.toCharArray()) x.type(c, false);
-        for (char c : loop.toCharArray()) x.type(c, true);
-    }
-
-    static String lasso(Wagnerhall x) {
-        StringBuilder s = new StringBuilder();
-        for (int i = 0; i < 10 && !(answer(atWay(i), x) instanceof Class); i++) s.append(answer(atWay(i), x));
-        s.append('(');
-        for (int i = 0; i < 10 && !(answer(atLoop(i), x) instanceof Class); i++) s.append(answer(atLoop(i), x));
-        return s.append(')').toString();
-    }
-
-    static Ask atWay(int i) {
-        return y -> y.letterAt(i, false);
-    }
-
-    static Ask atLoop(int i) {
-        return y -> y.letterAt(i, true);
-    }
-
-    /** A machine told as a text: states, how it accepts with its table, edges as from, letter, to, marks. */
-    static int machine(Wagnerhall x, String text) {
-        String[] parts = text.split(" ");
-        int m = x.machine(Integer.parseInt(parts[0]));
-        x.accept(m, parts[1].charAt(0), parts[1].length() > 1 ? Integer.parseInt(parts[1].substring(1)) : 0);
-        for (int i = 2; i < parts.length; i++) {
-            String e = parts[i];
-            x.edge(m, e.charAt(0) - '0', e.charAt(1), e.charAt(2) - '0', Integer.parseInt(e.substring(4)));
-        }
-        return m;
-    }
-
-    static int lang(Wagnerhall x, String text) {
-        return x.language(machine(x, text));
-    }
-
-    static void text(Wagnerhall x, String signs) {
-        x.erase();
-        for (char c : signs.toCharArray()) x.sign(c);
-    }
-
-    /** a comes again and again. */
-    static final String OFTEN_A = "1 b 0a0:1 0b0:0";
-    /** b comes only finitely often. */
-    static final String LAST_A = "1 c 0a0:0 0b0:1";
-    /** Some a comes. */
-    static final String SOME_A = "2 b 0a1:1 0b0:0 1a1:1 1b1:1";
-    /** No a comes. */
-    static final String NO_A = "1 m65535 0b0:0";
-    /** The first letter is a. */
-    static final String FIRST_A = "2 m65535 0a1:0 1a1:0 1b1:0";
-    /** Each second letter, from the first, is a. */
-    static final String EVEN_A = "2 m65535 0a1:0 1a0:0 1b0:0";
-    static final String ALL = "1 m65535 0a0:0 0b0:0";
-    static final String NONE = "1 b";
-
-    static final String DEEDS_300 = "4 m65519 0a1:1 0b0:3 1a0:1 1b0:0 1b3:14 2a1:1 2a2:1 2b1:2 3a2:0 3b3:11";
-    static final String DEEDS_301 = "3 p65128 0a1:1 0b2:3 1a0:1 1a1:1 1b1:5 2a0:2 2b1:8";
-    static final String CLASSES_100 = "4 b41050 0a3:4 0b3:3 1a2:1 1b0:0 1b1:2 2a1:8 3b2:4";
-    static final String CLASSES_101 = "4 r6464 0b2:4 1b0:4 2a2:2 2b3:10 3a2:0 3a3:1 3b1:4";
-    static final String PAIRS_600_ONE = "3 m54543 0a1:0 0b1:3 1b2:1 2a2:2 2b0:3";
-    static final String PAIRS_600_TWO = "4 s14987 0a3:4 0b2:0 1a1:0 1b3:2 2b0:3 2b3:4 3a0:3 3b3:2";
-    static final String PAIRS_601_ONE = "4 c23480 0a0:4 0b1:3 1b3:2 2a0:3 3b0:2 3b1:2";
-    static final String PAIRS_601_TWO = "4 c25604 0a1:11 0b3:2 1a2:0 1b3:1 2b0:8 3a0:0 3b2:8";
-    static final String JOIN_100_ONE = "3 s59531 0a1:0 0a2:0 0b2:0 1a2:3 1b0:11 1b1:2 2b1:0";
-    static final String JOIN_100_TWO = "4 m30510 0a0:2 0b2:1 1a0:2 1b0:2 2a3:2 2b2:4 3a3:3 3b0:0";
-    static final String JOIN_101_ONE = "3 c53344 0a1:0 0b1:0 0b2:0 1a2:0 1b0:8 2a1:9 2a2:1 2b1:0 2b2:1";
-    static final String JOIN_101_TWO = "4 m43450 0a3:4 0b3:2 1b3:6 2a0:5 2b0:8 3a3:8 3b1:13";
-
-    /** A house with some of everything: 0 often a, 1 last a, 2 some a, 3 no a, 4 first a, 5 each second a. */
-    static void some(Wagnerhall x) {
-        lang(x, OFTEN_A);
-        lang(x, LAST_A);
-        lang(x, SOME_A);
-        lang(x, NO_A);
-        lang(x, FIRST_A);
-        lang(x, EVEN_A);
-        word(x, "ab", "ba");
-        text(x, "Fa");
-        x.position(0, 2);
-        x.position(1, 1);
-        x.way(0, 1);
-        x.way(1, 0);
-    }
-
-    static void full(Wagnerhall x) {
-        some(x);
-        while (x.languages() < 12) x.turn(0, 'n');
+    static void promise(int number) {
+        perPromise[open] += asked - askedAtOpen;
+        open = number;
+        askedAtOpen = asked;
+        place = "promise " + number;
     }
 
     public static void main(String[] args) {
@@ -225,18 +39,15 @@ public final class PromisesTest {
         positions();
         games();
         sums();
+        promise(0);
         for (int i = 1; i < perPromise.length; i++) {
-            if (perPromise[i] == 0) {
-                wrong++;
-                System.out.println("promise " + i + " is not asked");
-            }
+            if (perPromise[i] == 0) fail("promise " + i + " is not asked");
         }
-        System.out.println(asked + " answers asked, " + wrong + " wrong");
-        System.exit(wrong == 0 ? 0 : 1);
+        end();
     }
 
     static void newHouse() {
-        promise = 1;
+        promise(1);
         Wagnerhall x = new Wagnerhall();
         is("languages", x.languages(), 0);
         is("checksum", x.checksum(), 7L);
@@ -255,21 +66,14 @@ public final class PromisesTest {
     }
 
     static void rows() {
-        promise = 2;
+        promise(2);
         Wagnerhall x = new Wagnerhall();
         for (int i = 1; i <= 10; i++) is("type " + i, x.type(i % 3 == 0 ? 'b' : 'a', false), i);
         for (int i = 1; i <= 10; i++) is("type loop " + i, x.type(i % 2 == 0 ? 'b' : 'a', true), i);
         is("all letters", lasso(x), "aabaabaaba(ababababab)");
-        Build ten = y -> word(y, "aabaabaaba", "ababababab");
-        refuses("type an 11th", ten, y -> y.type('a', false), ISE);
-        refuses("type an 11th for the loop", ten, y -> y.type('b', true), ISE);
-        refuses("type c on a full row", ten, y -> y.type('c', false), IAE);
-        for (char c : "cAB`x \0\uffff".toCharArray()) {
-            refuses("type " + (int) c, y -> word(y, "a", "b"), y -> y.type(c, c % 2 == 0), IAE);
-        }
         is("one row is full, not the other", answer(y -> y.type('a', true), house(y -> word(y, "aaaaaaaaaa", ""))), 1);
 
-        promise = 3;
+        promise(3);
         is("wipe", house(y -> word(y, "aab", "ba")).wipe(), 5);
         x = house(y -> word(y, "aaaaaaaaaa", "bbbbbbbbbb"));
         is("wipe all", x.wipe(), 20);
@@ -277,36 +81,24 @@ public final class PromisesTest {
         is("wipe again", x.wipe(), 0);
         is("wipe keeps the text", answer(y -> { y.sign('a'); y.wipe(); return y.erase(); }, x), 1);
 
-        promise = 4;
+        promise(4);
         x = house(y -> word(y, "aab", "ba"));
         is("way 0", x.letterAt(0, false), 'a');
         is("way 2", x.letterAt(2, false), 'b');
         is("loop 0", x.letterAt(0, true), 'b');
         is("loop 1", x.letterAt(1, true), 'a');
-        for (int i : new int[] {-1, 3, 10, 31, 32, Integer.MIN_VALUE, Integer.MAX_VALUE}) {
-            refuses("letterAt " + i, y -> word(y, "aab", "ba"), y -> y.letterAt(i, false), NSE);
-        }
-        refuses("letterAt 2 of the loop", y -> word(y, "aab", "ba"), y -> y.letterAt(2, true), NSE);
     }
 
     static void machines() {
-        promise = 5;
+        promise(5);
         Wagnerhall x = new Wagnerhall();
         for (int i = 0; i < 6; i++) is("machine " + i, x.machine(1 + i % 4), i);
         is("a state 3 of 4", x.edge(3, 3, 'a', 3, 0), 1);
         is("no state 1 of 1", answer(y -> y.edge(0, 1, 'a', 0, 0), x), IOOBE);
-        Build six = y -> {
-            for (int i = 0; i < 6; i++) machine(y, OFTEN_A);
-        };
-        refuses("a 7th machine", six, y -> y.machine(2), ISE);
-        for (int states : new int[] {0, 5, -1, Integer.MIN_VALUE, Integer.MAX_VALUE}) {
-            refuses("machine of " + states, PromisesTest::some, y -> y.machine(states), IAE);
-            refuses("a 7th machine of " + states, six, y -> y.machine(states), IAE);
-        }
         is("a new machine is of the way b", house(y -> y.machine(2)).accept(0, 'c', 0), 'b');
         is("a new machine has no edges", answer(y -> y.cut(0, 0, 'a', 0), house(y -> y.machine(2))), NSE);
 
-        promise = 6;
+        promise(6);
         x = house(y -> y.machine(2));
         is("edge", x.edge(0, 0, 'a', 1, 5), 1);
         is("edge of b", x.edge(0, 0, 'b', 1, 15), 2);
@@ -319,37 +111,16 @@ public final class PromisesTest {
             y.machine(2);
             y.edge(0, 0, 'a', 1, 3);
         };
-        refuses("no machine", two, y -> y.edge(1, 0, 'a', 0, 0), IOOBE);
-        refuses("machine -1", two, y -> y.edge(-1, 0, 'a', 0, 0), IOOBE);
-        refuses("machine 6", two, y -> y.edge(6, 0, 'a', 0, 0), IOOBE);
-        refuses("from 2", two, y -> y.edge(0, 2, 'a', 0, 0), IOOBE);
-        refuses("from -1", two, y -> y.edge(0, -1, 'a', 0, 0), IOOBE);
-        refuses("to 2", two, y -> y.edge(0, 0, 'a', 2, 0), IOOBE);
-        refuses("to -1", two, y -> y.edge(0, 0, 'a', -1, 0), IOOBE);
-        refuses("no state ahead of no letter", two, y -> y.edge(0, 0, 'c', 2, 99), IOOBE);
-        refuses("letter c", two, y -> y.edge(0, 0, 'c', 1, 0), IAE);
-        refuses("marks -1", two, y -> y.edge(0, 0, 'a', 1, -1), IAE);
-        refuses("marks 16", two, y -> y.edge(0, 0, 'a', 1, 16), IAE);
-        refuses("marks of an edge that is not there", two, y -> y.edge(0, 1, 'a', 1, 1 << 20), IAE);
 
-        promise = 7;
+        promise(7);
         x = house(two);
         is("cut", x.cut(0, 0, 'a', 1), 3);
         is("cut again", answer(y -> y.cut(0, 0, 'a', 1), x), NSE);
         is("fewer edges", x.edge(0, 1, 'a', 1, 0), 1);
-        refuses("cut none", two, y -> y.cut(0, 0, 'b', 1), NSE);
-        refuses("cut the way back", two, y -> y.cut(0, 1, 'a', 0), NSE);
-        refuses("cut of no machine", two, y -> y.cut(1, 0, 'a', 1), IOOBE);
-        refuses("cut of machine -1", two, y -> y.cut(-1, 0, 'a', 1), IOOBE);
-        refuses("cut from 2", two, y -> y.cut(0, 2, 'a', 1), IOOBE);
-        refuses("cut to 2", two, y -> y.cut(0, 0, 'a', 2), IOOBE);
-        refuses("cut to -1, no letter", two, y -> y.cut(0, 0, '-', -1), IOOBE);
-        refuses("cut of no letter", two, y -> y.cut(0, 0, 'A', 1), IAE);
-        refuses("cut of no letter, no edge", two, y -> y.cut(0, 1, 'A', 1), IAE);
     }
 
     static void ways() {
-        promise = 8;
+        promise(8);
         String[] how = {"b", "c", "p", "r", "s", "m"};
         int[] sets = {0xAAAA, 0x5555, 0x00F2, 0x4F44, 0xDD0D, 0x1234};
         for (int i = 0; i < how.length; i++) {
@@ -371,21 +142,10 @@ public final class PromisesTest {
         is("s before", x.accept(0, 'p', Integer.MIN_VALUE), 's');
         is("p before", x.accept(0, 'c', Integer.MAX_VALUE), 'p');
         is("c before", x.accept(0, 'b', 0), 'c');
-        Build one = y -> {
-            machine(y, "1 m4660 0a0:5");
-            machine(y, OFTEN_A);
-        };
-        refuses("m of -1", one, y -> y.accept(0, 'm', -1), IAE);
-        refuses("m of 65536", one, y -> y.accept(0, 'm', 65536), IAE);
-        refuses("way x", one, y -> y.accept(0, 'x', 0), IAE);
-        refuses("way B", one, y -> y.accept(0, 'B', 0), IAE);
-        refuses("way 0", one, y -> y.accept(0, '\0', 0), IAE);
-        refuses("no machine", one, y -> y.accept(2, 'b', 0), IOOBE);
-        refuses("machine -1, no way", one, y -> y.accept(-1, 'x', 0), IOOBE);
     }
 
     static void single() {
-        promise = 9;
+        promise(9);
         Wagnerhall x = house(y -> machine(y, "2 b 0a0:1 0b1:0 1a1:0 1b0:0"));
         is("just one", x.isDeterministic(0, true), true);
         is("at most one", x.isDeterministic(0, false), true);
@@ -399,8 +159,6 @@ public final class PromisesTest {
         is("two and none is missing", x.isDeterministic(0, true), false);
         is("no edges", house(y -> y.machine(4)).isDeterministic(0, false), true);
         is("no edges, just one asked", house(y -> y.machine(1)).isDeterministic(0, true), false);
-        refuses("no machine", PromisesTest::some, y -> y.isDeterministic(6, true), IOOBE);
-        refuses("machine -1", PromisesTest::some, y -> y.isDeterministic(-1, false), IOOBE);
     }
 
     static boolean taken(String machine, String way, String loop) {
@@ -410,7 +168,7 @@ public final class PromisesTest {
     }
 
     static void takes() {
-        promise = 10;
+        promise(10);
         is("often a of (ab)", taken(OFTEN_A, "", "ab"), true);
         is("often a of a(b)", taken(OFTEN_A, "a", "b"), false);
         is("last a of bb(a)", taken(LAST_A, "bb", "a"), true);
@@ -429,13 +187,10 @@ public final class PromisesTest {
         is("four states round, all marks", taken("4 m32768 0a1:1 1a2:2 2a3:4 3a0:8", "", "a"), true);
         is("long rows", taken(OFTEN_A, "bbbbbbbbbb", "bbbbbbbbba"), true);
         is("more than 300 deeds", taken(DEEDS_301, "", "a"), taken(DEEDS_301, "aa", "aaaa"));
-        refuses("no loop", y -> { some(y); word(y, "ab", ""); }, y -> y.takes(0), UOE);
-        refuses("no machine, no loop", y -> { some(y); y.wipe(); }, y -> y.takes(6), IOOBE);
-        refuses("machine -1", PromisesTest::some, y -> y.takes(-1), IOOBE);
     }
 
     static void deeds() {
-        promise = 11;
+        promise(11);
         is("often a", house(y -> machine(y, OFTEN_A)).deeds(0), 2);
         is("no edges", house(y -> y.machine(3)).deeds(0), 1);
         is("each second a", house(y -> machine(y, EVEN_A)).deeds(0), 7);
@@ -450,14 +205,10 @@ public final class PromisesTest {
             return m.deeds(0);
         }, null));
         is("the way has no meaning", house(y -> machine(y, "1 m7 0a0:1 0b0:0")).deeds(0), 2);
-        is("300", house(y -> machine(y, DEEDS_300)).deeds(0), 300);
-        refuses("301", y -> machine(y, DEEDS_301), y -> y.deeds(0), UOE);
-        refuses("no machine", PromisesTest::some, y -> y.deeds(6), IOOBE);
-        refuses("machine -1", PromisesTest::some, y -> y.deeds(-1), IOOBE);
     }
 
     static void language() {
-        promise = 12;
+        promise(12);
         Wagnerhall x = house(y -> machine(y, OFTEN_A));
         is("the first one", x.language(0), 0);
         is("the next one", x.language(0), 1);
@@ -466,22 +217,6 @@ public final class PromisesTest {
         is("as it was then", x.isA(0, 'e'), false);
         is("without marks", x.isA(2, 'e'), true);
         is("no edges", house(y -> lang(y, NONE)).isA(0, 'e'), true);
-        is("100 classes", house(y -> lang(y, CLASSES_100)).classes(0), 100);
-        is("300 deeds", answer(y -> lang(y, DEEDS_300), new Wagnerhall()), 0);
-        refuses("101 classes", y -> machine(y, CLASSES_101), y -> y.language(0), UOE);
-        refuses("301 deeds", y -> machine(y, DEEDS_301), y -> y.language(0), UOE);
-        refuses("a 13th", PromisesTest::full, y -> y.language(0), ISE);
-        Build fullOf = y -> {
-            machine(y, CLASSES_101);
-            machine(y, DEEDS_301);
-            lang(y, OFTEN_A);
-            while (y.languages() < 12) y.turn(0, 'n');
-        };
-        refuses("a 13th with 101 classes", fullOf, y -> y.language(0), UOE);
-        refuses("a 13th with 301 deeds", fullOf, y -> y.language(1), UOE);
-        refuses("a 13th of no machine", PromisesTest::full, y -> y.language(6), IOOBE);
-        refuses("no machine", PromisesTest::some, y -> y.language(6), IOOBE);
-        refuses("machine -1", PromisesTest::some, y -> y.language(-1), IOOBE);
         is("languages of nondeterministic machines", house(y -> {
             lang(y, "2 b 0a0:0 0b0:0 0a1:1 1a1:1");
             lang(y, LAST_A);
@@ -491,7 +226,7 @@ public final class PromisesTest {
             lang(y, "2 m2 0a0:0 0b0:0 0a1:0 1b0:1 0a0:0");
         }).isSame(0, 1), true);
 
-        promise = 13;
+        promise(13);
         x = new Wagnerhall();
         is("none", x.languages(), 0);
         lang(x, OFTEN_A);
@@ -501,7 +236,7 @@ public final class PromisesTest {
         is("three", x.languages(), 3);
         x.drop();
         is("two", x.languages(), 2);
-        is("twelve", house(PromisesTest::full).languages(), 12);
+        is("twelve", house(HelperHouse::full).languages(), 12);
     }
 
     static boolean isMade(Build build, String machine) {
@@ -510,7 +245,7 @@ public final class PromisesTest {
     }
 
     static void turn() {
-        promise = 14;
+        promise(14);
         is("number", house(y -> lang(y, SOME_A)).turn(0, 'n'), 1);
         is("no a is not some a", isMade(y -> { lang(y, SOME_A); y.turn(0, 'n'); }, NO_A), true);
         is("finitely many a", isMade(y -> { lang(y, OFTEN_A); y.turn(0, 'n'); }, "1 c 0a0:1 0b0:0"), true);
@@ -537,18 +272,11 @@ public final class PromisesTest {
         }, FIRST_A), true);
         is("inner of all", isMade(y -> { lang(y, ALL); y.turn(0, 'i'); }, ALL), true);
         is("the language itself is kept", house(y -> { lang(y, SOME_A); y.turn(0, 'n'); }).isA(0, 'o'), true);
-        refuses("no way to turn", PromisesTest::some, y -> y.turn(0, 'x'), IAE);
-        refuses("N", PromisesTest::some, y -> y.turn(0, 'N'), IAE);
-        refuses("no language, no way", PromisesTest::some, y -> y.turn(6, 'x'), IOOBE);
-        refuses("language -1", PromisesTest::some, y -> y.turn(-1, 'n'), IOOBE);
-        refuses("a 13th", PromisesTest::full, y -> y.turn(0, 'n'), ISE);
-        refuses("a 13th, no way", PromisesTest::full, y -> y.turn(0, 'o'), IAE);
-        refuses("a 13th of no language", PromisesTest::full, y -> y.turn(12, 'n'), IOOBE);
     }
 
     static void join() {
-        promise = 15;
-        is("number", house(PromisesTest::some).join(0, 1, '&'), 6);
+        promise(15);
+        is("number", house(HelperHouse::some).join(0, 1, '&'), 6);
         is("last a within often a", isMade(y -> { lang(y, OFTEN_A); lang(y, LAST_A); y.join(0, 1, '&'); }, LAST_A), true);
         is("either", isMade(y -> { lang(y, OFTEN_A); lang(y, LAST_A); y.join(0, 1, '|'); }, OFTEN_A), true);
         is("just one", isMade(y -> { lang(y, OFTEN_A); lang(y, LAST_A); y.join(0, 1, 'x'); }, "2 m8 0a0:1 0b0:2"), true);
@@ -557,43 +285,11 @@ public final class PromisesTest {
         is("itself, just one", isMade(y -> { lang(y, EVEN_A); y.join(0, 0, 'x'); }, NONE), true);
         is("some a or no a", isMade(y -> { lang(y, SOME_A); lang(y, NO_A); y.join(0, 1, '|'); }, ALL), true);
         is("some a and no a", isMade(y -> { lang(y, SOME_A); lang(y, NO_A); y.join(0, 1, '&'); }, NONE), true);
-        is("100 classes", answer(y -> {
-            lang(y, JOIN_100_ONE);
-            lang(y, JOIN_100_TWO);
-            return y.classes(y.join(0, 1, '&'));
-        }, new Wagnerhall()), 100);
-        Build more = y -> {
-            lang(y, JOIN_101_ONE);
-            lang(y, JOIN_101_TWO);
-        };
-        refuses("101 classes", more, y -> y.join(0, 1, '&'), UOE);
-        Build pairs = y -> {
-            lang(y, PAIRS_601_ONE);
-            lang(y, PAIRS_601_TWO);
-        };
-        refuses("601 pairs", pairs, y -> y.join(0, 1, '&'), UOE);
-        refuses("601 pairs, either", pairs, y -> y.join(1, 0, '|'), UOE);
-        refuses("a 13th of 101 classes", y -> {
-            more.on(y);
-            while (y.languages() < 12) y.turn(0, 'n');
-        }, y -> y.join(0, 1, '&'), UOE);
-        refuses("a 13th of 601 pairs", y -> {
-            pairs.on(y);
-            while (y.languages() < 12) y.turn(0, 'n');
-        }, y -> y.join(0, 1, 'x'), UOE);
-        refuses("a 13th", PromisesTest::full, y -> y.join(0, 1, '&'), ISE);
-        refuses("a 13th, no way", PromisesTest::full, y -> y.join(0, 1, '-'), IAE);
-        refuses("no way", PromisesTest::some, y -> y.join(0, 1, '-'), IAE);
-        refuses("X", PromisesTest::some, y -> y.join(0, 1, 'X'), IAE);
-        refuses("no language", PromisesTest::some, y -> y.join(6, 0, '&'), IOOBE);
-        refuses("no other language", PromisesTest::some, y -> y.join(0, 6, '&'), IOOBE);
-        refuses("language -1, no way", PromisesTest::some, y -> y.join(-1, 0, '-'), IOOBE);
-        refuses("other -1, no way", PromisesTest::some, y -> y.join(0, -1, '-'), IOOBE);
     }
 
     static void shift() {
-        promise = 16;
-        is("number", house(PromisesTest::some).shift(0, 'a'), 6);
+        promise(16);
+        is("number", house(HelperHouse::some).shift(0, 'a'), 6);
         is("first a by a", isMade(y -> { lang(y, FIRST_A); y.shift(0, 'a'); }, ALL), true);
         is("first a by b", isMade(y -> { lang(y, FIRST_A); y.shift(0, 'b'); }, NONE), true);
         is("often a by b", isMade(y -> { lang(y, OFTEN_A); y.shift(0, 'b'); }, OFTEN_A), true);
@@ -601,16 +297,11 @@ public final class PromisesTest {
         is("some a by b", isMade(y -> { lang(y, SOME_A); y.shift(0, 'b'); }, SOME_A), true);
         is("each second a by a", isMade(y -> { lang(y, EVEN_A); y.shift(0, 'a'); }, "2 m65535 0a1:0 0b1:0 1a0:0"), true);
         is("each second a by a and b", isMade(y -> { lang(y, EVEN_A); y.shift(y.shift(0, 'a'), 'b'); }, EVEN_A), true);
-        refuses("no letter", PromisesTest::some, y -> y.shift(0, 'c'), IAE);
-        refuses("no language, no letter", PromisesTest::some, y -> y.shift(6, 'c'), IOOBE);
-        refuses("language -1", PromisesTest::some, y -> y.shift(-1, 'a'), IOOBE);
-        refuses("a 13th", PromisesTest::full, y -> y.shift(0, 'a'), ISE);
-        refuses("a 13th, no letter", PromisesTest::full, y -> y.shift(0, 'A'), IAE);
     }
 
     static void drop() {
-        promise = 17;
-        Wagnerhall x = house(PromisesTest::some);
+        promise(17);
+        Wagnerhall x = house(HelperHouse::some);
         is("drop", x.drop(), 5);
         is("the last one is gone", answer(y -> y.classes(5), x), IOOBE);
         is("the others stay", x.isA(4, 'o') && x.isA(4, 'c'), true);
@@ -619,12 +310,11 @@ public final class PromisesTest {
         x = house(y -> lang(y, OFTEN_A));
         is("drop the only one", x.drop(), 0);
         is("drop none", answer(y -> y.drop(), x), ISE);
-        refuses("drop in a house with machines alone", y -> machine(y, OFTEN_A), y -> y.drop(), ISE);
     }
 
     static void has() {
-        promise = 18;
-        Wagnerhall x = house(PromisesTest::some);
+        promise(18);
+        Wagnerhall x = house(HelperHouse::some);
         String[][] lassos = {{"", "ab"}, {"a", "b"}, {"bb", "a"}, {"", "b"}, {"b", "ab"}};
         String[] due = {"101011", "001010", "111000", "000100", "101000"};
         for (int i = 0; i < lassos.length; i++) {
@@ -636,14 +326,11 @@ public final class PromisesTest {
         word(x, "aaaaaaaaaa", "bbbbbbbbbb");
         is("long rows", x.has(0), false);
         is("long rows, some a", x.has(2), true);
-        refuses("no loop", y -> { some(y); word(y, "a", ""); }, y -> y.has(0), UOE);
-        refuses("no language, no loop", y -> { some(y); y.wipe(); }, y -> y.has(6), IOOBE);
-        refuses("language -1", PromisesTest::some, y -> y.has(-1), IOOBE);
     }
 
     static void classesOf() {
-        promise = 19;
-        Wagnerhall x = house(PromisesTest::some);
+        promise(19);
+        Wagnerhall x = house(HelperHouse::some);
         int[] classes = {2, 2, 2, 2, 2, 7};
         for (int l = 0; l < 6; l++) is("classes of " + l, x.classes(l), classes[l]);
         is("all", house(y -> lang(y, ALL)).classes(0), 1);
@@ -651,20 +338,14 @@ public final class PromisesTest {
         is("just (a)", house(y -> lang(y, "1 m65535 0a0:0")).classes(0), 2);
         is("a comes just once", house(y -> lang(y, "2 c 0b0:1 0a1:0 1b1:0")).classes(0), 3);
         is("the opposite", house(y -> { lang(y, EVEN_A); y.turn(0, 'n'); }).classes(1), x.classes(5));
-        refuses("no language", PromisesTest::some, y -> y.classes(6), IOOBE);
-        refuses("language -1", PromisesTest::some, y -> y.classes(-1), IOOBE);
 
-        promise = 20;
+        promise(20);
         Wagnerhall once = house(y -> lang(y, "2 c 0b0:1 0a1:0 1b1:0"));
         is("length of a", once.length(0, 0), 1);
         is("length of b", once.length(0, 1), 1);
         is("length of aa", once.length(0, 2), 2);
-        refuses("class 3", y -> lang(y, "2 c 0b0:1 0a1:0 1b1:0"), y -> y.length(0, 3), IOOBE);
-        refuses("class -1", PromisesTest::some, y -> y.length(0, -1), IOOBE);
-        refuses("no language", PromisesTest::some, y -> y.length(6, 0), IOOBE);
-        refuses("language -1", PromisesTest::some, y -> y.length(-1, 0), IOOBE);
 
-        promise = 21;
+        promise(21);
         int[][] due = {{2, 0, 2}, {0, 1, 2}, {2, 2, 2}};
         for (int i = 0; i < 3; i++) {
             for (int k = 0; k < 3; k++) is("product " + i + " " + k, once.product(0, i, k), due[i][k]);
@@ -672,24 +353,16 @@ public final class PromisesTest {
         Wagnerhall first = house(y -> lang(y, FIRST_A));
         is("first a: a times b", first.product(0, 0, 1), 0);
         is("first a: b times a", first.product(0, 1, 0), 1);
-        refuses("left 2", PromisesTest::some, y -> y.product(0, 2, 0), IOOBE);
-        refuses("right 2", PromisesTest::some, y -> y.product(0, 0, 2), IOOBE);
-        refuses("left -1", PromisesTest::some, y -> y.product(0, -1, 0), IOOBE);
-        refuses("right -1", PromisesTest::some, y -> y.product(0, 0, -1), IOOBE);
-        refuses("no language", PromisesTest::some, y -> y.product(6, 0, 0), IOOBE);
 
-        promise = 22;
+        promise(22);
         word(once, "ba", "");
         is("class of ba", once.classOf(0), 0);
         word(once, "bb", "a");
         is("class of bb", once.classOf(0), 1);
         word(once, "bababbbbbb", "a");
         is("class of a long way", once.classOf(0), 2);
-        refuses("no way", y -> { some(y); word(y, "", "ab"); }, y -> y.classOf(0), UOE);
-        refuses("no language, no way", y -> { some(y); y.wipe(); }, y -> y.classOf(6), IOOBE);
-        refuses("language -1", PromisesTest::some, y -> y.classOf(-1), IOOBE);
 
-        promise = 23;
+        promise(23);
         is("b and aa", once.idempotents(0), 2);
         is("often a", x.idempotents(0), 2);
         is("all", house(y -> lang(y, ALL)).idempotents(0), 1);
@@ -698,10 +371,8 @@ public final class PromisesTest {
             for (int i = 0; i < y.classes(0); i++) n += y.product(0, i, i) == i ? 1 : 0;
             return n;
         }, house(y -> lang(y, EVEN_A))));
-        refuses("no language", PromisesTest::some, y -> y.idempotents(6), IOOBE);
-        refuses("language -1", PromisesTest::some, y -> y.idempotents(-1), IOOBE);
 
-        promise = 24;
+        promise(24);
         for (int i = -1; i < 3; i++) {
             StringBuilder got = new StringBuilder();
             for (int t = 0; t < 3; t++) got.append(once.value(0, i, t) ? '1' : '0');
@@ -710,17 +381,11 @@ public final class PromisesTest {
         is("no word and the loop a", first.value(0, -1, 0), true);
         is("no word and the loop b", first.value(0, -1, 1), false);
         is("b and the loop a", first.value(0, 1, 0), false);
-        refuses("class -2", PromisesTest::some, y -> y.value(0, -2, 0), IOOBE);
-        refuses("class 2", PromisesTest::some, y -> y.value(0, 2, 0), IOOBE);
-        refuses("loop -1", PromisesTest::some, y -> y.value(0, 0, -1), IOOBE);
-        refuses("loop 2", PromisesTest::some, y -> y.value(0, 0, 2), IOOBE);
-        refuses("no language", PromisesTest::some, y -> y.value(6, -1, 0), IOOBE);
-        refuses("language -1", PromisesTest::some, y -> y.value(-1, 0, 0), IOOBE);
     }
 
     static void compare() {
-        promise = 25;
-        Wagnerhall x = house(PromisesTest::some);
+        promise(25);
+        Wagnerhall x = house(HelperHouse::some);
         for (int i = 0; i < 6; i++) {
             for (int k = 0; k < 6; k++) is("same " + i + " " + k, x.isSame(i, k), i == k);
         }
@@ -728,38 +393,19 @@ public final class PromisesTest {
         x.turn(6, 'n');
         is("turned twice", x.isSame(0, 7), true);
         is("turned once", x.isSame(0, 6), false);
-        refuses("no language", PromisesTest::some, y -> y.isSame(6, 0), IOOBE);
-        refuses("no other", PromisesTest::some, y -> y.isSame(0, 6), IOOBE);
-        refuses("language -1", PromisesTest::some, y -> y.isSame(-1, 0), IOOBE);
-        refuses("other -1", PromisesTest::some, y -> y.isSame(0, -1), IOOBE);
 
-        promise = 26;
-        x = house(PromisesTest::some);
+        promise(26);
+        x = house(HelperHouse::some);
         String[] due = {"101000", "111000", "001000", "000100", "001010", "001011"};
         for (int i = 0; i < 6; i++) {
             for (int k = 0; k < 6; k++) is("within " + i + " " + k, x.isWithin(i, k), due[i].charAt(k) == '1' || i == 5 && k == 0);
         }
         is("none within all others", house(y -> { lang(y, NONE); lang(y, NO_A); }).isWithin(0, 1), true);
-        is("600 pairs", answer(y -> {
-            lang(y, PAIRS_600_ONE);
-            lang(y, PAIRS_600_TWO);
-            return y.isWithin(0, 1) == y.isWithin(0, 1);
-        }, new Wagnerhall()), true);
-        Build pairs = y -> {
-            lang(y, PAIRS_601_ONE);
-            lang(y, PAIRS_601_TWO);
-        };
-        refuses("601 pairs", pairs, y -> y.isWithin(0, 1), UOE);
-        refuses("601 pairs, turned", pairs, y -> y.isWithin(1, 0), UOE);
-        refuses("no language", PromisesTest::some, y -> y.isWithin(6, 0), IOOBE);
-        refuses("no other", PromisesTest::some, y -> y.isWithin(0, 6), IOOBE);
-        refuses("language -1", PromisesTest::some, y -> y.isWithin(-1, 0), IOOBE);
-        refuses("other -1", PromisesTest::some, y -> y.isWithin(0, -1), IOOBE);
     }
 
     static void apart() {
-        promise = 27;
-        Wagnerhall x = house(PromisesTest::some);
+        promise(27);
+        Wagnerhall x = house(HelperHouse::some);
         is("often a and last a", x.apart(0, 1), 2);
         is("its lasso", lasso(x), "(ab)");
         is("some a and often a", x.apart(2, 0), 2);
@@ -770,42 +416,13 @@ public final class PromisesTest {
         is("its lasso", lasso(x), "a(b)");
         is("first a and some a", x.apart(4, 2), 2);
         is("its lasso", lasso(x), "(ba)");
-        Build deep = y -> {
-            lang(y, "1 c 0a0:0 0b0:0");
-            lang(y, ALL);
-            lang(y, "4 m65535 0a0:0 0b1:0 1a0:0 1b2:0 2a0:0 2b3:0 3a0:0");
-            word(y, "ab", "a");
-        };
-        x = house(deep);
-        is("four b", x.apart(1, 2), 1);
+        x = house(y -> { lang(y, ALL); lang(y, "4 m65535 0a0:0 0b1:0 1a0:0 1b2:0 2a0:0 2b3:0 3a0:0"); });
+        is("four b", x.apart(0, 1), 1);
         is("its lasso", lasso(x), "(b)");
-        refuses("the same", PromisesTest::some, y -> y.apart(0, 0), NSE);
-        refuses("two that are the same", deep, y -> y.apart(0, 1), NSE);
-        Build eight = y -> {
-            lang(y, NONE);
-            lang(y, "4 b 0b3:1 1a1:1 1b0:0 2a0:1 2b0:1 3b1:1");
-            lang(y, "4 b 0b3:0 1a1:1 2a3:1 2b1:0 3a0:1 3b2:1");
-            y.join(1, 2, '&');
-        };
-        is("with 8 letters", answer(y -> y.apart(0, 3) + lasso(y), house(eight)), "8bbaabbb(a)");
-        is("with 8 letters, turned", answer(y -> y.apart(3, 0) + lasso(y), house(eight)), "8bbaabbb(a)");
-        Build nine = y -> {
-            lang(y, NONE);
-            lang(y, "4 b 0a2:1 0b1:0 0b2:1 1a1:0 1b0:0 2a1:1 3b3:0");
-            lang(y, "4 b 0b2:0 1a3:0 2b3:0 3a0:0 3b0:1");
-            y.join(1, 2, '&');
-            word(y, "a", "b");
-        };
-        is("they are not the same", house(nine).isSame(0, 3), false);
-        refuses("with 9 letters or more", nine, y -> y.apart(0, 3), NSE);
-        refuses("no language", PromisesTest::some, y -> y.apart(6, 0), IOOBE);
-        refuses("no other", PromisesTest::some, y -> y.apart(0, 6), IOOBE);
-        refuses("language -1", PromisesTest::some, y -> y.apart(-1, 0), IOOBE);
-        refuses("other -1", PromisesTest::some, y -> y.apart(0, -1), IOOBE);
     }
 
     static void kinds() {
-        promise = 28;
+        promise(28);
         String[] machines = {OFTEN_A, LAST_A, SOME_A, NO_A, FIRST_A, EVEN_A, ALL, NONE};
         String[] due = {"dgakp", "dfakp", "odgfak", "cgfak", "ocgfa", "cgf", "uocdgfakp", "eocgfakp"};
         for (int i = 0; i < machines.length; i++) {
@@ -819,15 +436,10 @@ public final class PromisesTest {
         is("neither g nor f", x.isA(0, 'g') || x.isA(0, 'f'), false);
         is("not each power stands", house(y -> lang(y, "2 b 0a1:0 1a0:1 0b0:0 1b1:0")).isA(0, 'p'), true);
         is("aa as one letter", house(y -> lang(y, "2 m65535 0a1:0 1a0:0 0b0:0")).isA(0, 'a'), false);
-        refuses("kind x", PromisesTest::some, y -> y.isA(0, 'x'), IAE);
-        refuses("kind E", PromisesTest::some, y -> y.isA(0, 'E'), IAE);
-        refuses("kind 0", PromisesTest::some, y -> y.isA(0, '\0'), IAE);
-        refuses("no language, no kind", PromisesTest::some, y -> y.isA(6, 'x'), IOOBE);
-        refuses("language -1", PromisesTest::some, y -> y.isA(-1, 'e'), IOOBE);
     }
 
     static void chains() {
-        promise = 29;
+        promise(29);
         String[] machines = {OFTEN_A, LAST_A, SOME_A, NO_A, FIRST_A, ALL, NONE, "1 m8 0a0:1 0b0:2", "1 p 0a0:2 0b0:4",
             "2 m65493 0a0:1 0b1:2 1a0:4 1b1:8"};
         int[] in = {1, 2, 1, 1, 1, 1, 0, 1};
@@ -851,20 +463,16 @@ public final class PromisesTest {
         is("three colours, in", x.chain(0, true), HelperModel.chain(model.lang(0), true));
         is("three colours, in, is 3", x.chain(0, true), 3);
         is("three colours, out", x.chain(0, false), HelperModel.chain(model.lang(0), false));
-        refuses("no language", PromisesTest::some, y -> y.chain(6, true), IOOBE);
-        refuses("language -1", PromisesTest::some, y -> y.chain(-1, false), IOOBE);
     }
 
     static void residuals() {
-        promise = 30;
+        promise(30);
         String[] machines = {OFTEN_A, LAST_A, SOME_A, NO_A, FIRST_A, EVEN_A, ALL, NONE, "2 c 0b0:1 0a1:0 1b1:0"};
         int[] due = {1, 1, 2, 2, 3, 3, 1, 1, 3};
         for (int i = 0; i < machines.length; i++) {
             int k = i;
             is(machines[i], house(y -> lang(y, machines[k])).residuals(0), due[i]);
         }
-        refuses("no language", PromisesTest::some, y -> y.residuals(6), IOOBE);
-        refuses("language -1", PromisesTest::some, y -> y.residuals(-1), IOOBE);
     }
 
     static String verdictsOf(Wagnerhall x, String way, String loop) {
@@ -875,8 +483,8 @@ public final class PromisesTest {
     }
 
     static void verdicts() {
-        promise = 31;
-        Wagnerhall x = house(PromisesTest::some);
+        promise(31);
+        Wagnerhall x = house(HelperHouse::some);
         is("no way", verdictsOf(x, "", "b"), "??????");
         is("no way, no loop", verdictsOf(x, "", ""), "??????");
         is("a", verdictsOf(x, "a", "a"), "??+-+?");
@@ -886,12 +494,10 @@ public final class PromisesTest {
         is("abb", verdictsOf(x, "abb", ""), "??+-+-");
         is("all and none", verdictsOf(house(y -> { lang(y, ALL); lang(y, NONE); }), "abab", ""), "+-");
         is("all and none, no way", verdictsOf(house(y -> { lang(y, ALL); lang(y, NONE); }), "", ""), "+-");
-        refuses("no language", PromisesTest::some, y -> y.verdict(6), IOOBE);
-        refuses("language -1", PromisesTest::some, y -> y.verdict(-1), IOOBE);
     }
 
     static void many() {
-        promise = 32;
+        promise(32);
         Wagnerhall x = house(y -> { some(y); y.join(2, 3, '|'); y.join(2, 3, '&'); });
         int all = 0;
         int often = 0;
@@ -907,31 +513,19 @@ public final class PromisesTest {
         }
         is("all with 8", x.many(6, 8), 3586);
         is("the lasso stays", lasso(x), "ab(ba)");
-        for (int k : new int[] {0, 9, -1, Integer.MIN_VALUE, Integer.MAX_VALUE}) {
-            refuses("many " + k, PromisesTest::some, y -> y.many(0, k), IAE);
-        }
-        refuses("no language, no number", PromisesTest::some, y -> y.many(6, 9), IOOBE);
-        refuses("language -1", PromisesTest::some, y -> y.many(-1, 3), IOOBE);
     }
 
-    static final String THIRTY = "!!!!!!!!!!!!!!!!!!!!!!!!!!!!!a";
-
     static void text() {
-        promise = 33;
+        promise(33);
         Wagnerhall x = new Wagnerhall();
         String signs = "a!&|XFGU";
         for (int i = 0; i < 30; i++) is("sign " + i, x.sign(signs.charAt(i % 8)), i + 1);
-        refuses("a 31st", y -> { word(y, "", "b"); text(y, THIRTY); }, y -> y.sign('a'), ISE);
-        refuses("a 31st that is none", y -> text(y, THIRTY), y -> y.sign('b'), IAE);
-        for (char c : "bAxfgu*^-01 \0\uffff".toCharArray()) {
-            refuses("sign " + (int) c, PromisesTest::some, y -> y.sign(c), IAE);
-        }
-        promise = 34;
+        promise(34);
         is("erase 30", x.erase(), 30);
         is("erase again", x.erase(), 0);
         is("sign behind", x.sign('a'), 1);
         is("erase 1", x.erase(), 1);
-        is("erase keeps the lasso", answer(y -> { y.erase(); return lasso(y); }, house(PromisesTest::some)), "ab(ba)");
+        is("erase keeps the lasso", answer(y -> { y.erase(); return lasso(y); }, house(HelperHouse::some)), "ab(ba)");
     }
 
     static boolean holds(String signs, String way, String loop) {
@@ -942,7 +536,7 @@ public final class PromisesTest {
     }
 
     static void formulas() {
-        promise = 35;
+        promise(35);
         String[] yes = {"a ab b", "a - a", "!a b a", "Xa ba b", "Xa - ba", "XXa - ab", "Fa bbb ab", "Fa bbb ba", "Ga - a", "Ga aaa a",
             "GFa - ab", "FGa bbb a", "FG!a aba b", "Ua!a aaab a", "U!aa bba b", "Uaa a b", "Uaa - ab", "&aXa aab b", "|aXa bab b",
             "&a|XaXXa - aba", "UXaa ba b", "U!a&aXa bbaa b", "G|aXa - ab", "!U!aa - b", "!FG!a - ab", "FXXXXXa bbbbbbb ba", "UGaGa - a",
@@ -962,16 +556,11 @@ public final class PromisesTest {
         is("19 steps", holds("XXXXXXXXXXXXXXXXXXXa", "bbbbbbbbbb", "bbbbbbbbba"), true);
         is("20 steps", holds("XXXXXXXXXXXXXXXXXXXXa", "aaaaaaaaaa", "bbbbbbbbba"), false);
         is("until round the loop", holds("U!aa", "b", "bbbbba"), true);
-        for (String t : new String[] {"", "!", "aa", "&a", "Ua", "a!", "&aaa", "X", "FG", "UaUa", "||aa", THIRTY.replace('a', '!')}) {
-            refuses("no formula: " + t, y -> { some(y); text(y, t); }, y -> y.holds(), UOE);
-        }
-        refuses("no loop", y -> { some(y); word(y, "ab", ""); }, y -> y.holds(), UOE);
-        refuses("no loop, no formula", y -> { y.type('a', false); }, y -> y.holds(), UOE);
     }
 
     static void agrees() {
-        promise = 36;
-        Wagnerhall x = house(PromisesTest::some);
+        promise(36);
+        Wagnerhall x = house(HelperHouse::some);
         int all = 0;
         for (int k = 1; k <= 6; k++) {
             all += k << k;
@@ -992,80 +581,38 @@ public final class PromisesTest {
         }
         is("the lasso stays", lasso(x), "ab(ba)");
         is("the lasso has no meaning", house(y -> { some(y); y.wipe(); }).agrees(2, 4), 98);
-        for (int k : new int[] {0, 7, -1, Integer.MIN_VALUE, Integer.MAX_VALUE}) {
-            refuses("agrees " + k, PromisesTest::some, y -> y.agrees(0, k), IAE);
-            refuses("agrees, no formula, " + k, y -> { some(y); y.sign('a'); }, y -> y.agrees(0, k), IAE);
-        }
-        refuses("no formula", y -> { some(y); y.sign('a'); }, y -> y.agrees(0, 1), UOE);
-        refuses("no text", y -> { some(y); y.erase(); }, y -> y.agrees(0, 6), UOE);
-        refuses("no language, no number, no formula", y -> { some(y); y.erase(); }, y -> y.agrees(6, 7), IOOBE);
-        refuses("language -1", PromisesTest::some, y -> y.agrees(-1, 3), IOOBE);
     }
 
     static void positions() {
-        promise = 37;
+        promise(37);
         Wagnerhall x = new Wagnerhall();
         for (int i = 0; i < 10; i++) is("position " + i, x.position(i % 2, i % 6), i);
-        Build ten = y -> {
-            for (int i = 0; i < 10; i++) y.position(i % 2, i % 6);
-        };
-        refuses("an 11th", ten, y -> y.position(0, 0), ISE);
-        refuses("an 11th of no colour", ten, y -> y.position(0, 6), IAE);
-        int[][] bad = {{-1, 0}, {2, 0}, {0, -1}, {1, 6}, {Integer.MIN_VALUE, 0}, {0, Integer.MAX_VALUE}, {2, 6}};
-        for (int[] b : bad) {
-            refuses("position " + b[0] + " " + b[1], PromisesTest::some, y -> y.position(b[0], b[1]), IAE);
-        }
         is("a new position has no ways", answer(y -> y.move(2), house(y -> { some(y); y.position(1, 0); })), NSE);
 
-        promise = 38;
+        promise(38);
         is("a way", x.way(0, 1), true);
         is("the way back", x.way(1, 0), true);
         is("to the same", x.way(9, 9), true);
         is("away again", x.way(0, 1), false);
         is("and there again", x.way(0, 1), true);
         is("the same away", x.way(9, 9), false);
-        refuses("from -1", PromisesTest::some, y -> y.way(-1, 0), IOOBE);
-        refuses("from 2", PromisesTest::some, y -> y.way(2, 0), IOOBE);
-        refuses("to -1", PromisesTest::some, y -> y.way(0, -1), IOOBE);
-        refuses("to 2", PromisesTest::some, y -> y.way(0, 2), IOOBE);
-        refuses("to 10", ten, y -> y.way(0, 10), IOOBE);
-        refuses("to 32", ten, y -> y.way(0, 32), IOOBE);
-    }
-
-    /** A game told as a text: positions by player and colour, then ways. */
-    static Wagnerhall game(String text) {
-        Wagnerhall x = new Wagnerhall();
-        for (String p : text.split(" ")) {
-            if (p.indexOf('>') < 0) {
-                x.position(p.charAt(0) - '0', p.charAt(1) - '0');
-            } else {
-                x.way(p.charAt(0) - '0', p.charAt(2) - '0');
-            }
-        }
-        return x;
     }
 
     static void play(String text, String won, String moves) {
-        Wagnerhall x = game(text);
+        Wagnerhall x = house(y -> game(y, text));
         int count = 0;
         for (int i = 0; i < won.length(); i++) {
             int k = i;
-            promise = 39;
+            promise(39);
             is(text + " wins " + i, x.wins(i), won.charAt(i) == '1');
-            promise = 40;
+            promise(40);
             Object due = moves.charAt(i) == '-' ? NSE : (Object) (moves.charAt(i) - '0');
             is(text + " move " + i, answer(y -> y.move(k), x), due);
-            if (moves.charAt(i) == '-') refuses(text + " move " + i, y -> {
-                for (String p : text.split(" ")) {
-                    if (p.indexOf('>') < 0) y.position(p.charAt(0) - '0', p.charAt(1) - '0');
-                    else y.way(p.charAt(0) - '0', p.charAt(2) - '0');
-                }
-            }, y -> y.move(k), NSE);
             count += won.charAt(i) - '0';
         }
-        promise = 41;
+        promise(41);
         is(text + " won", x.won(), count);
-        promise = 45;
+        promise(45);
         is(text + " isSound", x.isSound(), true);
     }
 
@@ -1089,26 +636,19 @@ public final class PromisesTest {
         play("01 00 0>1", "00", "--");
         play("11 00 0>1 1>1", "11", "-1");
         play("01 13 02 14 05 0>1 1>2 2>3 3>0 3>4 4>4 1>0", "00000", "-0-0-");
-        promise = 39;
-        Wagnerhall x = game("01 02 0>0 0>1 1>1");
+        promise(39);
+        Wagnerhall x = house(y -> game(y, "01 02 0>0 0>1 1>1"));
         is("it can leave", x.wins(0), true);
         x.way(0, 1);
         is("it can not leave", x.wins(0), false);
         x.way(1, 0);
         is("the other one need not go", x.wins(1), true);
-        refuses("no position", PromisesTest::some, y -> y.wins(2), IOOBE);
-        refuses("position -1", PromisesTest::some, y -> y.wins(-1), IOOBE);
-        refuses("position 32", PromisesTest::some, y -> y.wins(32), IOOBE);
-        promise = 40;
-        refuses("no position", PromisesTest::some, y -> y.move(2), IOOBE);
-        refuses("position -1", PromisesTest::some, y -> y.move(-1), IOOBE);
-        refuses("who is at it loses", y -> { some(y); y.position(1, 0); }, y -> y.move(2), NSE);
-        promise = 41;
+        promise(41);
         is("none", new Wagnerhall().won(), 0);
     }
 
     static void sums() {
-        promise = 42;
+        promise(42);
         is("none", new Wagnerhall().checksum(), 7L);
         is("all", house(y -> lang(y, ALL)).checksum(), 208538L);
         is("no word", house(y -> lang(y, NONE)).checksum(), 208537L);
@@ -1122,7 +662,7 @@ public final class PromisesTest {
             y.sign('a');
         }).checksum(), 208538L);
         is("after drop", house(y -> { lang(y, ALL); y.turn(0, 'n'); y.drop(); }).checksum(), 208538L);
-        Wagnerhall x = house(PromisesTest::full);
+        Wagnerhall x = house(HelperHouse::full);
         long sum = 7;
         for (int l = 0; l < 12; l++) {
             int n = x.classes(l);
@@ -1142,26 +682,22 @@ public final class PromisesTest {
         }
         is("twelve languages", x.checksum(), sum);
 
-        promise = 43;
+        promise(43);
         is("all", house(y -> lang(y, ALL)).share(0), 1.0f);
         is("no word", house(y -> lang(y, NONE)).share(0), 0.0f);
         is("often a", house(y -> lang(y, OFTEN_A)).share(0), 201.0f / 258.0f);
         is("first a", house(y -> lang(y, FIRST_A)).share(0), 0.5f);
         is("no a", house(y -> lang(y, NO_A)).share(0), 15.0f / 258.0f);
-        refuses("no language", PromisesTest::some, y -> y.share(6), IOOBE);
-        refuses("language -1", PromisesTest::some, y -> y.share(-1), IOOBE);
 
-        promise = 44;
+        promise(44);
         is("one", house(y -> lang(y, OFTEN_A)).meanClasses(), 2.0);
         is("two", house(y -> { lang(y, OFTEN_A); lang(y, ALL); }).meanClasses(), 1.5);
         is("three", house(y -> { lang(y, OFTEN_A); lang(y, ALL); lang(y, ALL); }).meanClasses(), 4.0 / 3.0);
-        refuses("none", y -> machine(y, OFTEN_A), y -> y.meanClasses(), AE);
-        refuses("none left", y -> { lang(y, OFTEN_A); y.drop(); }, y -> y.meanClasses(), AE);
 
-        promise = 45;
-        is("some", house(PromisesTest::some).isSound(), true);
-        is("full", house(PromisesTest::full).isSound(), true);
+        promise(45);
+        is("some", house(HelperHouse::some).isSound(), true);
+        is("full", house(HelperHouse::full).isSound(), true);
         is("100 classes", house(y -> lang(y, CLASSES_100)).isSound(), true);
-        is("it changes nothing", probe(house(y -> { full(y); y.isSound(); })), probe(house(PromisesTest::full)));
+        is("it changes nothing", kinds(house(y -> { full(y); y.isSound(); })), kinds(house(HelperHouse::full)));
     }
 }

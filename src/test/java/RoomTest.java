@@ -27,16 +27,6 @@ public final class RoomTest {
         }
     }
 
-    static void machine(Wagnerhall x, String text) {
-        String[] parts = text.split(" ");
-        int m = x.machine(Integer.parseInt(parts[0]));
-        x.accept(m, parts[1].charAt(0), parts[1].length() > 1 ? Integer.parseInt(parts[1].substring(1)) : 0);
-        for (int i = 2; i < parts.length; i++) {
-            String e = parts[i];
-            x.edge(m, e.charAt(0) - '0', e.charAt(1), e.charAt(2) - '0', Integer.parseInt(e.substring(4)));
-        }
-    }
-
     static void calls(Wagnerhall x, int times) {
         for (int i = 0; i < times; i++) {
             x.language(2);
@@ -70,10 +60,10 @@ public final class RoomTest {
         room(() -> made[0] = new Wagnerhall());
         atMost("a new house", room(() -> made[0] = new Wagnerhall()), 700_000);
         Wagnerhall x = made[0];
-        machine(x, "3 s59531 0a1:0 0a2:0 0b2:0 1a2:3 1b0:11 1b1:2 2b1:0");
-        machine(x, "4 m30510 0a0:2 0b2:1 1a0:2 1b0:2 2a3:2 2b2:4 3a3:3 3b0:0");
-        machine(x, "4 b41050 0a3:4 0b3:3 1a2:1 1b0:0 1b1:2 2a1:8 3b2:4");
-        machine(x, "4 m65519 0a1:1 0b0:3 1a0:1 1b0:0 1b3:14 2a1:1 2a2:1 2b1:2 3a2:0 3b3:11");
+        HelperHouse.machine(x, "3 s59531 0a1:0 0a2:0 0b2:0 1a2:3 1b0:11 1b1:2 2b1:0");
+        HelperHouse.machine(x, "4 m30510 0a0:2 0b2:1 1a0:2 1b0:2 2a3:2 2b2:4 3a3:3 3b0:0");
+        HelperHouse.machine(x, "4 b41050 0a3:4 0b3:3 1a2:1 1b0:0 1b1:2 2a1:8 3b2:4");
+        HelperHouse.machine(x, "4 m65519 0a1:1 0b0:3 1a0:1 1b0:0 1b3:14 2a1:1 2a2:1 2b1:2 3a2:0 3b3:11");
         x.language(0);
         x.language(1);
         x.position(0, 2);
