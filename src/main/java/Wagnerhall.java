@@ -57,11 +57,11 @@ public final class Wagnerhall {
         languageCount = 0;
         wayRow = EMPTY;
         loopRow = EMPTY;
-        work = new Deeds();
-        pairs = new Pairs();
-        turned = new Turned();
+        work = new Deeds(machines[0]);
+        pairs = new Pairs(slots[0]);
+        turned = new Turned(slots[0]);
         sieve = new Sieve();
-        chains = new Chains();
+        chains = new Chains(slots[0]);
         lassos = new Lassos();
         formula = new Formula();
         game = new Game();
@@ -190,7 +190,7 @@ public final class Wagnerhall {
         if (!isMachine(machine)) {
             throw new IndexOutOfBoundsException("no such machine");
         }
-        if (!work.fill(machines[machine]) || !sieve.make(work, slots[languageCount])) {
+        if (!work.fill(machines[machine]) || !sieve.make(work, freeSlot())) {
             throw new UnsupportedOperationException("too many deeds or classes");
         }
         if (languageCount >= LANGUAGES) {
@@ -215,7 +215,7 @@ public final class Wagnerhall {
             throw new IllegalStateException("there are 12 languages");
         }
         turned.aim(slots[language], how, 0);
-        sieve.make(turned, slots[languageCount]);
+        sieve.make(turned, freeSlot());
         return addSlot();
     }
 
@@ -227,7 +227,7 @@ public final class Wagnerhall {
         if (by != '&' && by != '|' && by != 'x') {
             throw new IllegalArgumentException("no such way to join");
         }
-        if (!pairs.fill(slots[language], slots[other], by) || !sieve.make(pairs, slots[languageCount])) {
+        if (!pairs.fill(slots[language], slots[other], by) || !sieve.make(pairs, freeSlot())) {
             throw new UnsupportedOperationException("too many pairs or classes");
         }
         if (languageCount >= LANGUAGES) {
@@ -248,7 +248,7 @@ public final class Wagnerhall {
             throw new IllegalStateException("there are 12 languages");
         }
         turned.aim(slots[language], Turned.SHIFT, bitOf(letter));
-        sieve.make(turned, slots[languageCount]);
+        sieve.make(turned, freeSlot());
         return addSlot();
     }
 
@@ -493,7 +493,7 @@ public final class Wagnerhall {
 
     public long checksum() {
         long sum = 7;
-        for (int i = 0; i < languageCount; i++) {
+        for (int i = 0; i < languageCount && i < slots.length; i++) {
             sum = slots[i].addTo(sum);
         }
         return sum;
@@ -515,14 +515,14 @@ public final class Wagnerhall {
             throw new ArithmeticException("there are no languages");
         }
         int sum = 0;
-        for (int i = 0; i < languageCount; i++) {
+        for (int i = 0; i < languageCount && i < slots.length; i++) {
             sum += slots[i].count;
         }
         return (double) sum / (double) languageCount;
     }
 
     public boolean isSound() {
-        for (int i = 0; i < languageCount; i++) {
+        for (int i = 0; i < languageCount && i < slots.length; i++) {
             if (!slots[i].hasFirstWords() || !isParted(slots[i])) {
                 return false;
             }
@@ -558,6 +558,11 @@ public final class Wagnerhall {
 
     private boolean isClass(int number, int index) {
         return isLanguage(number) && index >= 0 && index < slots[number].count;
+    }
+
+    /** Where the next language is made; there is one slot more than languages. */
+    private Language freeSlot() {
+        return slots[Math.min(languageCount, LANGUAGES)];
     }
 
     private int addSlot() {
@@ -859,8 +864,10 @@ public final class Wagnerhall {
         private Machine machine;
         private int accepted;
 
-        Deeds() {
+        Deeds(Machine first) {
             super(DEEDS);
+            machine = first;
+            accepted = 0;
         }
 
         /** Finds all deeds; not if there are more than are allowed. */
@@ -1069,8 +1076,11 @@ public final class Wagnerhall {
         private Language two;
         private char by;
 
-        Pairs() {
+        Pairs(Language first) {
             super(PAIRS);
+            one = first;
+            two = first;
+            by = WITHOUT;
         }
 
         /** Finds all pairs; not if there are more than are allowed. */
@@ -1151,8 +1161,11 @@ public final class Wagnerhall {
         private char how;
         private int letter;
 
-        Turned() {
+        Turned(Language first) {
             super(CLASSES);
+            one = first;
+            how = SHIFT;
+            letter = 0;
         }
 
         void aim(Language newOne, char newHow, int newLetter) {
@@ -1531,6 +1544,12 @@ public final class Wagnerhall {
         private Language one;
         private int stays;
         private int loopCount;
+
+        Chains(Language first) {
+            one = first;
+            stays = 0;
+            loopCount = 0;
+        }
 
         int longest(Language newOne, boolean isIn) {
             one = newOne;
