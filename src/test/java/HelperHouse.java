@@ -86,12 +86,15 @@ class HelperHouse {
         return s.toString();
     }
 
+    /** Who wins where, and which ways there are. */
     static Object games(Wagnerhall x) {
         StringBuilder s = new StringBuilder();
         for (int i = 0; i < 10; i++) {
             int from = i;
             s.append(answer(y -> y.wins(from), x)).append(answer(y -> y.move(from), x));
         }
+        // Ways told to positions that were not there would show when these come.
+        for (int i = 0; i < 10; i++) s.append(answer(y -> y.position(0, 0), x));
         for (int i = 0; i < 100; i++) {
             int from = i / 10;
             int to = i % 10;
@@ -100,12 +103,18 @@ class HelperHouse {
         return s.toString();
     }
 
+    /** What machines are and take, and which edges there are. */
     static Object edges(Wagnerhall x) {
         StringBuilder s = new StringBuilder();
         for (int i = 0; i < 6; i++) {
             int k = i;
             s.append(answer(y -> y.isDeterministic(k, true), x)).append(answer(y -> y.isDeterministic(k, false), x));
             s.append(answer(y -> y.takes(k), x)).append(answer(y -> y.deeds(k), x));
+        }
+        // Edges told to machines that were not there would show when these come.
+        for (int i = 0; i < 6; i++) s.append(answer(y -> y.machine(4), x));
+        for (int i = 0; i < 6; i++) {
+            int k = i;
             s.append(cutAll(x, k)).append(answer(y -> y.edge(k, 0, 'a', 0, 0), x)).append(answer(y -> y.accept(k, 'b', 0), x));
         }
         return s.toString();
@@ -138,8 +147,10 @@ class HelperHouse {
         return s.toString();
     }
 
+    /** What all languages are, and two more if there is room. */
     static Object kinds(Wagnerhall x) {
         StringBuilder s = new StringBuilder();
+        s.append(answer(y -> y.shift(0, 'a'), x)).append(answer(y -> y.language(0), x));
         for (int i = 0; i < x.languages() && i < 12; i++) {
             for (char kind : "euocdgfakp".toCharArray()) s.append(x.isA(i, kind));
             s.append(x.classes(i)).append(' ').append(x.idempotents(i)).append(' ').append(x.residuals(i)).append(' ');
@@ -148,6 +159,7 @@ class HelperHouse {
         return s.toString();
     }
 
+    /** The first classes of all languages. */
     static Object values(Wagnerhall x) {
         StringBuilder s = new StringBuilder();
         int most = x.languages() > 6 ? 2 : 4;
@@ -161,6 +173,7 @@ class HelperHouse {
         return s.toString();
     }
 
+    /** What the text says, also with more signs behind. */
     static Object texts(Wagnerhall x) {
         StringBuilder s = new StringBuilder();
         for (char sign : "a!&".toCharArray()) {

@@ -416,6 +416,7 @@ public final class PromisesTest extends HelperHouse {
         is("its lasso", lasso(x), "a(b)");
         is("first a and some a", x.apart(4, 2), 2);
         is("its lasso", lasso(x), "(ba)");
+        is("the text stays", x.erase(), 2);
         x = house(y -> { lang(y, ALL); lang(y, "4 m65535 0a0:0 0b1:0 1a0:0 1b2:0 2a0:0 2b3:0 3a0:0"); });
         is("four b", x.apart(0, 1), 1);
         is("its lasso", lasso(x), "(b)");
