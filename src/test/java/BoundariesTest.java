@@ -560,6 +560,8 @@ public final class BoundariesTest extends HelperHouse {
         terms("A language with more than 100 classes is refused, however it comes.");
         is("100 classes of a machine", on(y -> machine(y, CLASSES_100), y -> y.classes(y.language(0))), 100);
         is("100 classes of two joined", on(BoundariesTest::join100, y -> y.classes(y.join(0, 1, '&'))), 100);
+        for (String machine : MORE_100) is("100 classes of " + machine, on(y -> machine(y, machine), y -> y.classes(y.language(0))), 100);
+        for (String machine : MORE_101) refuses("101 classes of " + machine, y -> machine(y, machine), UOE, y -> y.language(0));
         is("100 classes, turned and shifted", on(y -> lang(y, CLASSES_100), y -> {
             y.turn(0, 'n');
             for (char how : "cli".toCharArray()) y.turn(0, how);

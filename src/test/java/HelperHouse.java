@@ -269,6 +269,24 @@ class HelperHouse {
     static final String DEEDS_301 = "3 p65128 0a1:1 0b2:3 1a0:1 1a1:1 1b1:5 2a0:2 2b1:8";
     static final String CLASSES_100 = "4 b41050 0a3:4 0b3:3 1a2:1 1b0:0 1b1:2 2a1:8 3b2:4";
     static final String CLASSES_101 = "4 r6464 0b2:4 1b0:4 2a2:2 2b3:10 3a2:0 3a3:1 3b1:4";
+    /** More machines whose languages have just 100 classes, one for each way to accept. */
+    static final String[] MORE_100 = {
+        "3 b38861 0a0:0 0a1:5 1a2:0 1b2:2 2a0:0 2b1:0",
+        "3 c2611 0a1:0 0b2:11 1b1:3 1b2:0 2a0:2 2b0:2",
+        "3 p44710 0a0:0 0a2:6 0b1:15 1a2:5 1b2:2 2a0:1 2a1:1",
+        "3 r43858 0a0:11 0a2:9 0b2:1 1a0:2 1b0:0 2a1:1",
+        "3 s44889 0a2:0 0b2:6 1a0:12 1a1:0 2a1:0 2b0:7",
+        "3 m27790 0b0:12 0b2:2 1a0:11 1b2:5 2a1:0 2b1:0"
+    };
+    /** More machines whose languages would have 101 classes, one for each way to accept. */
+    static final String[] MORE_101 = {
+        "4 b32008 0a3:2 0b3:8 1a2:2 1a3:1 2a0:2 2a1:7 2b2:13 3a2:4",
+        "3 c15064 0a2:0 0b2:1 1a1:1 1b0:0 1b2:1 2b1:0",
+        "4 p19669 0b1:9 1a2:0 1a3:0 1b2:7 2a0:1 2b3:1 3a0:1 3a2:6 3b3:14",
+        "3 r12952 0a1:1 0b1:10 1a0:2 1b2:0 2a2:12 2b1:2",
+        "4 s15633 0b3:1 1b3:1 2a1:1 2b2:15 2b3:1 3a3:0 3b0:0 3b2:1",
+        "3 m29998 0a1:0 0b0:2 1a2:1 1b0:1 1b2:1 2a0:12 2b2:2"
+    };
     static final String PAIRS_600_ONE = "3 m54543 0a1:0 0b1:3 1b2:1 2a2:2 2b0:3";
     static final String PAIRS_600_TWO = "4 s14987 0a3:4 0b2:0 1a1:0 1b3:2 2b0:3 2b3:4 3a0:3 3b3:2";
     static final String PAIRS_601_ONE = "4 c23480 0a0:4 0b1:3 1b3:2 2a0:3 3b0:2 3b1:2";
